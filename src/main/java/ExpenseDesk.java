@@ -37,14 +37,13 @@ public final class ExpenseDesk {
     private final Settings settings;
     private final Receipts receipts;
     private final int[] grades;
-    private int employeeCount;
+    private int employeeCount = 0;
     private final ArrayList<Report> allReports;
 
     public ExpenseDesk() {
         settings = new Settings();
         receipts = new Receipts();
         grades = new int[MOST_EMPLOYEES];
-        employeeCount = 0;
         allReports = new ArrayList<Report>();
     }
 
@@ -401,9 +400,7 @@ public final class ExpenseDesk {
         }
 
         int firstSite(int a, int b) {
-            if (a == b || shortest[a][b] == FAR) {
-                return NONE;
-            }
+            // From a site to itself, and where there is no way, no road is as short as this asks.
             for (int site = 0; site < SITES; site++) {
                 if (roads[a][site] > 0 && roads[a][site] + shortest[site][b] == shortest[a][b]) {
                     return site;
@@ -584,8 +581,8 @@ public final class ExpenseDesk {
 
     private abstract static class Line {
         /** Claim and payment are those of the last time that the report was settled. */
-        int claim = 0;
-        int payment = 0;
+        int claim;
+        int payment;
 
         abstract int kind();
 

@@ -4,6 +4,10 @@ final class Check {
         long answer();
     }
 
+    interface CallOf {
+        long answer(int[] arguments);
+    }
+
     static final Class<?> ARGUMENT = IllegalArgumentException.class;
     static final Class<?> STATE = IllegalStateException.class;
     static final Class<?> INDEX = IndexOutOfBoundsException.class;
@@ -27,7 +31,10 @@ final class Check {
         due(what, want ? 1 : 0, got ? 1 : 0);
     }
 
-    /** The very class is asked for: the machine's own exceptions are classes below these. */
+    /**
+     * The very class is asked for, and thrown by the class itself: the machine's own exceptions are classes
+     * below these, and the library throws some of its own.
+     */
     static void refused(String what, Class<?> want, Call call) {
         asked++;
         try {
@@ -35,11 +42,21 @@ final class Check {
             wrong++;
             System.out.println(what + ": answered " + got + ", due is " + want.getSimpleName());
         } catch (RuntimeException e) {
-            if (e.getClass() != want) {
+            if (e.getClass() != want || !thrownByTheClass(e)) {
                 wrong++;
                 System.out.println(what + ": threw " + e + ", due is " + want.getSimpleName());
             }
         }
+    }
+
+    static void refusedEach(String what, Class<?> want, int[][] rows, CallOf call) {
+        for (int[] row : rows) {
+            refused(what + java.util.Arrays.toString(row), want, () -> call.answer(row));
+        }
+    }
+
+    static boolean thrownByTheClass(Throwable e) {
+        return e.getStackTrace()[0].getClassName().startsWith("ExpenseDesk");
     }
 
     static void end(String test) {

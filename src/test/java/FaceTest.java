@@ -100,21 +100,26 @@ public final class FaceTest {
             } else {
                 Check.due("private: " + field, true, Modifier.isPrivate(modifiers));
             }
-            Check.due("static is final: " + field, true, !Modifier.isStatic(modifiers) || Modifier.isFinal(modifiers));
+            checkStatic(field);
         }
         Check.due("constants: " + constants, true,
             constants.equals(Set.of("NONE", "ANY", "TRIP", "DRIVE", "ITEM")));
+    }
+
+    private static void checkStatic(Field field) {
+        int modifiers = field.getModifiers();
+        Check.due("static is final: " + field, true, !Modifier.isStatic(modifiers) || Modifier.isFinal(modifiers));
     }
 
     private static void classesInside() {
         Class<?>[] inside = ExpenseDesk.class.getDeclaredClasses();
         Check.due("some twelve classes", true, inside.length <= 12);
         for (Class<?> one : inside) {
-            Check.due("not public or protected: " + one, 0, one.getModifiers() & (Modifier.PUBLIC | Modifier.PROTECTED));
+            Check.due("not public or protected: " + one, 0,
+                one.getModifiers() & (Modifier.PUBLIC | Modifier.PROTECTED));
             Check.due("static: " + one, true, Modifier.isStatic(one.getModifiers()));
             for (Field field : one.getDeclaredFields()) {
-                Check.due("static is final: " + field, true,
-                    !Modifier.isStatic(field.getModifiers()) || Modifier.isFinal(field.getModifiers()));
+                checkStatic(field);
             }
         }
     }

@@ -43,11 +43,8 @@ public final class LinesTest {
             {0, MAX, 0, 0, 0, 0}, {MIN, 5, 0, 0, 0, 0}, {MAX, MIN, 0, 0, 0, 0}, {MIN, MAX, 0, 0, 0, 0},
             {MAX, MAX, 0, 0, 0, 0}, {MAX - 1, MAX, 0, 0, 0, 0}, {0, MIN, 0, 0, 0, 0}, {0, 5, MAX, 0, 0, 0},
             {0, 5, 0, MAX, 0, 0}, {0, 5, 0, 0, MAX, 0}, {0, 5, 0, 0, 0, MAX}, {0, 5, MIN, MIN, MIN, MIN}};
-        for (int[] b : bad) {
-            String what = "addTrip " + java.util.Arrays.toString(b);
-            Check.refused(what, Check.ARGUMENT, () -> desk.addTrip(0, b[0], b[1], b[2], b[3], b[4], b[5]));
-            Check.refused(what, Check.ELEMENT, () -> desk.addTrip(1, b[0], b[1], b[2], b[3], b[4], b[5]));
-        }
+        Check.refusedEach("addTrip ", Check.ARGUMENT, bad, b -> desk.addTrip(0, b[0], b[1], b[2], b[3], b[4], b[5]));
+        Check.refusedEach("no report ", Check.ELEMENT, bad, b -> desk.addTrip(1, b[0], b[1], b[2], b[3], b[4], b[5]));
         Check.refused("report -1", Check.ELEMENT, () -> desk.addTrip(-1, 0, 5, 0, 0, 0, 0));
         Check.refused("report MIN", Check.ELEMENT, () -> desk.addTrip(MIN, 0, 5, 0, 0, 0, 0));
         desk.handIn(0);
@@ -116,10 +113,8 @@ public final class LinesTest {
         Check.due("no way any more", 0, desk.paid(0, 1));
         Check.refused("no way", Check.STATE, () -> desk.addDrive(0, 0, 11, true));
         int[][] bad = {{-1, 0}, {12, 0}, {0, -1}, {0, 12}, {4, 4}, {MIN, 0}, {0, MAX}, {12, 12}};
-        for (int[] b : bad) {
-            Check.refused("addDrive " + b[0] + " " + b[1], Check.ARGUMENT, () -> desk.addDrive(0, b[0], b[1], true));
-            Check.refused("no report " + b[0], Check.ELEMENT, () -> desk.addDrive(1, b[0], b[1], false));
-        }
+        Check.refusedEach("addDrive ", Check.ARGUMENT, bad, b -> desk.addDrive(0, b[0], b[1], true));
+        Check.refusedEach("no report ", Check.ELEMENT, bad, b -> desk.addDrive(1, b[0], b[1], false));
         Check.refused("report -1", Check.ELEMENT, () -> desk.addDrive(-1, 1, 11, false));
         Check.due("no line came", 2, desk.lines(0));
         desk.handIn(0);
@@ -145,11 +140,8 @@ public final class LinesTest {
             {0, 0, 1, 0, 1000000000}, {MIN, 0, 1, 0, 0}, {MAX, 0, 1, 0, 0}, {0, MIN, 1, 0, 0}, {0, MAX, 1, 0, 0},
             {0, 0, MIN, 0, 0}, {0, 0, MAX, 0, 0}, {0, 0, 1, MIN, 0}, {0, 0, 1, MAX, 0}, {0, 0, 1, 0, MIN},
             {0, 0, 1, 0, MAX}, {9, 0, 1, 1, -1}};
-        for (int[] b : bad) {
-            String what = "addItem " + java.util.Arrays.toString(b);
-            Check.refused(what, Check.ARGUMENT, () -> desk.addItem(0, b[0], b[1], b[2], b[3], b[4]));
-            Check.refused(what, Check.ELEMENT, () -> desk.addItem(1, b[0], b[1], b[2], b[3], b[4]));
-        }
+        Check.refusedEach("addItem ", Check.ARGUMENT, bad, b -> desk.addItem(0, b[0], b[1], b[2], b[3], b[4]));
+        Check.refusedEach("no report ", Check.ELEMENT, bad, b -> desk.addItem(1, b[0], b[1], b[2], b[3], b[4]));
         Check.refused("report -1", Check.ELEMENT, () -> desk.addItem(-1, 0, 0, 1, 0, 0));
         Check.refused("no rate yet on that day", Check.STATE, () -> desk.addItem(0, 9, 0, 1, 1, 0));
         Check.refused("no rate at all", Check.STATE, () -> desk.addItem(0, 9, 0, 1, 2, 0));

@@ -144,6 +144,8 @@ public final class QuestionsTest {
         Check.due("paid, not claimed", 80, desk.totalOf(0, 3));
         Check.due("another category", 5, desk.totalOf(0, 4));
         Check.due("nothing of it", 0, desk.totalOf(0, 0));
+        desk.addItem(2, 0, 5, 6, 0, 0);
+        Check.due("the last category", 6, desk.totalOf(0, 5));
         Check.due("another employee", 7, desk.totalOf(1, 3));
         desk.handIn(0);
         desk.setLimit(3, -1, 20);
@@ -176,6 +178,13 @@ public final class QuestionsTest {
         desk.removeLine(2, 0);
         Check.due("lines went down", 200, desk.duplicateOf(2, 1));
         Check.due("and the first is none", ExpenseDesk.NONE, desk.duplicateOf(2, 0));
+        desk.openReport(0);
+        desk.addItem(3, 8, 0, 100, 0, 777);
+        Check.due("of the report 2, not of the other employee's", 200, desk.duplicateOf(3, 0));
+        desk.removeLine(2, 0);
+        desk.removeLine(2, 0);
+        desk.addItem(2, 9, 0, 101, 0, 778);
+        Check.due("behind a trip", 201, desk.duplicateOf(3, 0));
     }
 
     private static boolean like(int day, int amount, int receipt, int otherDay, int otherAmount, int otherReceipt) {
@@ -287,9 +296,7 @@ public final class QuestionsTest {
             Check.due("editDistance " + d[1] + " " + d[0], d[2], desk.editDistance(d[1], d[0]));
         }
         int[][] bad = {{-1, 0}, {0, -1}, {1000000000, 0}, {0, 1000000000}, {MIN, 0}, {0, MIN}, {MAX, 0}, {0, MAX}};
-        for (int[] b : bad) {
-            Check.refused("editDistance " + b[0] + " " + b[1], Check.ARGUMENT, () -> desk.editDistance(b[0], b[1]));
-        }
+        Check.refusedEach("editDistance ", Check.ARGUMENT, bad, b -> desk.editDistance(b[0], b[1]));
         java.util.Random random = new java.util.Random(31);
         for (int i = 0; i < 400; i++) {
             int one = random.nextInt(1000000000);

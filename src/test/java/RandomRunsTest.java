@@ -14,13 +14,14 @@ public final class RandomRunsTest {
     private static final int CALLS = 512;
     private static final Map<String, Method> OF_DESK = methodsOf(ExpenseDesk.class);
     private static final Map<String, Method> OF_REFERENCE = methodsOf(ReferenceDesk.class);
+    /** Some stand here more than once: they are asked as much more often. */
     private static final String[] CHANGES = {"setRoad", "setRoad", "setDayRate", "setKilometreRate", "setExchange",
-        "setExchange", "setLimit", "setLimit", "addEmployee", "setGrade", "openReport", "openReport", "handIn", "giveBack",
-        "addTrip", "addTrip", "addDrive", "addItem", "addItem", "addItem", "addItem", "addItem", "addItem", "addItem",
-        "removeLine"};
-    private static final String[] QUESTIONS = {"distance", "via", "exchange", "limit", "reports", "isOpen", "lines", "kindOf",
-        "claimed", "claimed", "paid", "paid", "total", "handedIn", "totalOf", "duplicateOf", "duplicateOf", "duplicates",
-        "editDistance"};
+        "setExchange", "setLimit", "setLimit", "addEmployee", "setGrade", "openReport", "openReport", "handIn",
+        "giveBack", "addTrip", "addTrip", "addDrive", "addItem", "addItem", "addItem", "addItem", "addItem",
+        "addItem", "addItem", "removeLine"};
+    private static final String[] QUESTIONS = {"distance", "via", "exchange", "limit", "reports", "isOpen", "lines",
+        "kindOf", "claimed", "claimed", "paid", "paid", "total", "handedIn", "totalOf", "duplicateOf", "duplicateOf",
+        "duplicates", "editDistance"};
 
     private final Random random;
     private final ExpenseDesk desk = new ExpenseDesk();
@@ -62,16 +63,18 @@ public final class RandomRunsTest {
             Object[] a = arguments(name);
             String got = answer(desk, OF_DESK.get(name), a);
             String want = answer(reference, OF_REFERENCE.get(name), a);
-            Check.due("seed " + seed + ", call " + call + ": " + name + Arrays.toString(a) + " answered " + got + " where "
-                + want + " is due", true, got.equals(want));
+            Check.due("seed " + seed + ", call " + call + ": " + name + Arrays.toString(a) + " answered " + got
+                + " where " + want + " is due", true, got.equals(want));
         }
     }
 
-    private static String answer(Object of, Method method, Object[] a) throws IllegalAccessException {
+    private String answer(Object of, Method method, Object[] a) throws IllegalAccessException {
         try {
             return String.valueOf(method.invoke(of, a));
         } catch (InvocationTargetException e) {
-            return e.getCause().getClass().getName();
+            Throwable thrown = e.getCause();
+            boolean wild = of == desk && !Check.thrownByTheClass(thrown);
+            return (wild ? "not by a throw of its own: " : "") + thrown.getClass().getName();
         }
     }
 
@@ -92,7 +95,7 @@ public final class RandomRunsTest {
     private Object[] arguments(String name) {
         int report = report();
         switch (name) {
-            case "setRoad": return new Object[] {site(), site(), random.nextInt(6) == 0 ? 0 : upTo(0, random.nextBoolean() ? 20 : 500)};
+            case "setRoad": return new Object[] {site(), site(), length()};
             case "setDayRate": return new Object[] {upTo(0, 5), upTo(0, random.nextBoolean() ? 120 : 100000)};
             case "setKilometreRate": return new Object[] {upTo(0, 500)};
             case "setExchange": return new Object[] {upTo(1, 4), day(), rate()};
@@ -126,6 +129,10 @@ public final class RandomRunsTest {
 
     private int site() {
         return upTo(0, sites - 1);
+    }
+
+    private int length() {
+        return random.nextInt(6) == 0 ? 0 : upTo(0, random.nextBoolean() ? 20 : 500);
     }
 
     private int day() {
@@ -167,7 +174,8 @@ public final class RandomRunsTest {
 
     private int receipt() {
         int[] usual = {0, 1, 10, 100, 12, 21, 112, 122, 1234, 1243, 12345, 999999999, 99999999, 100000000};
-        return random.nextInt(3) > 0 ? usual[random.nextInt(usual.length)] : upTo(0, random.nextBoolean() ? 30 : 999999999);
+        int most = random.nextBoolean() ? 30 : 999999999;
+        return random.nextInt(3) > 0 ? usual[random.nextInt(usual.length)] : upTo(0, most);
     }
 
     private Object[] trip(int report) {

@@ -52,10 +52,7 @@ public final class SettingsTest {
         desk.setRoad(0, 11, 7);
         int[][] bad = {{-1, 0, 5}, {12, 0, 5}, {0, -1, 5}, {0, 12, 5}, {3, 3, 5}, {3, 3, 0}, {0, 11, -1},
             {0, 11, 501}, {MIN, 0, 5}, {0, MAX, 5}, {0, 11, MIN}, {0, 11, MAX}};
-        for (int[] b : bad) {
-            Check.refused("setRoad " + b[0] + " " + b[1] + " " + b[2], Check.ARGUMENT,
-                () -> desk.setRoad(b[0], b[1], b[2]));
-        }
+        Check.refusedEach("setRoad ", Check.ARGUMENT, bad, b -> desk.setRoad(b[0], b[1], b[2]));
         Check.due("as before the refused calls", 7, desk.setRoad(11, 0, 8));
         Check.due("both ways", 8, desk.distance(0, 11));
         Check.due("both ways", 8, desk.distance(11, 0));
@@ -68,9 +65,7 @@ public final class SettingsTest {
         Check.due("second", 100000, desk.setDayRate(0, 0));
         Check.due("third", 0, desk.setDayRate(0, 17));
         int[][] bad = {{-1, 1}, {6, 1}, {0, -1}, {0, 100001}, {MIN, 1}, {MAX, 1}, {0, MIN}, {0, MAX}};
-        for (int[] b : bad) {
-            Check.refused("setDayRate " + b[0] + " " + b[1], Check.ARGUMENT, () -> desk.setDayRate(b[0], b[1]));
-        }
+        Check.refusedEach("setDayRate ", Check.ARGUMENT, bad, b -> desk.setDayRate(b[0], b[1]));
         Check.due("as before the refused calls", 17, desk.setDayRate(0, 1));
     }
 
@@ -92,14 +87,12 @@ public final class SettingsTest {
         Check.due("an earlier day", 0, desk.setExchange(1, 0, 1));
         Check.due("the last day", 0, desk.setExchange(1, 3649, 100000));
         Check.due("another currency", 0, desk.setExchange(4, 5, 300));
+        Check.due("its only day again", 300, desk.setExchange(4, 5, 301));
         Check.due("the very day again", 100, desk.setExchange(1, 5, 150));
         Check.due("and again", 150, desk.setExchange(1, 5, 160));
         int[][] bad = {{0, 5, 1}, {-1, 5, 1}, {5, 5, 1}, {1, -1, 1}, {1, 3650, 1}, {1, 5, 0}, {1, 5, -1},
             {1, 5, 100001}, {MIN, 5, 1}, {MAX, 5, 1}, {1, MIN, 1}, {1, MAX, 1}, {1, 5, MIN}, {1, 5, MAX}};
-        for (int[] b : bad) {
-            Check.refused("setExchange " + b[0] + " " + b[1] + " " + b[2], Check.ARGUMENT,
-                () -> desk.setExchange(b[0], b[1], b[2]));
-        }
+        Check.refusedEach("setExchange ", Check.ARGUMENT, bad, b -> desk.setExchange(b[0], b[1], b[2]));
         Check.due("as before the refused calls", 160, desk.setExchange(1, 5, 1));
         Check.due("the home rate stays", 10000, desk.exchange(0, 5));
     }
@@ -118,10 +111,7 @@ public final class SettingsTest {
         Check.due("removed", ExpenseDesk.NONE, desk.setLimit(-1, -1, ExpenseDesk.NONE));
         int[][] bad = {{-2, 0, 1}, {6, 0, 1}, {0, -2, 1}, {0, 4, 1}, {0, 0, -2}, {0, 0, 10000001},
             {MIN, 0, 1}, {MAX, 0, 1}, {0, MIN, 1}, {0, MAX, 1}, {0, 0, MIN}, {0, 0, MAX}};
-        for (int[] b : bad) {
-            Check.refused("setLimit " + b[0] + " " + b[1] + " " + b[2], Check.ARGUMENT,
-                () -> desk.setLimit(b[0], b[1], b[2]));
-        }
+        Check.refusedEach("setLimit ", Check.ARGUMENT, bad, b -> desk.setLimit(b[0], b[1], b[2]));
         Check.due("as before the refused calls", 101, desk.setLimit(0, 0, 5));
     }
 
@@ -143,10 +133,13 @@ public final class SettingsTest {
             desk.setRoad(site, site + 1, 500);
         }
         Check.due("the longest way", 5500, desk.distance(11, 0));
+        desk.setRoad(0, 5, 3);
+        Check.due("over site 0", 503, desk.distance(5, 1));
+        desk.setRoad(11, 5, 3);
+        desk.setRoad(11, 6, 3);
+        Check.due("over site 11", 6, desk.distance(5, 6));
         int[][] bad = {{-1, 0}, {12, 0}, {0, -1}, {0, 12}, {12, 12}, {MIN, 0}, {0, MAX}};
-        for (int[] b : bad) {
-            Check.refused("distance " + b[0] + " " + b[1], Check.ARGUMENT, () -> desk.distance(b[0], b[1]));
-        }
+        Check.refusedEach("distance ", Check.ARGUMENT, bad, b -> desk.distance(b[0], b[1]));
     }
 
     private static void promise8Via() {
@@ -166,13 +159,18 @@ public final class SettingsTest {
         Check.due("a longer road is none of the ways", 7, desk.via(3, 5));
         desk.setRoad(3, 7, 13);
         Check.due("the shorter way counts first", 9, desk.via(3, 5));
+        desk.setRoad(6, 0, 1);
+        Check.due("first to site 0, over the shortest road", 0, desk.via(6, 5));
+        desk.setRoad(8, 10, 1);
+        desk.setRoad(10, 11, 1);
+        desk.setRoad(8, 11, 3);
+        Check.due("a higher site on a shorter way", 10, desk.via(8, 11));
+        Check.due("first to site 11", 11, desk.via(10, 11));
         Check.due("no way", ExpenseDesk.NONE, desk.via(3, 11));
         Check.due("no way", ExpenseDesk.NONE, desk.via(11, 3));
         Check.due("the same site", ExpenseDesk.NONE, desk.via(3, 3));
         int[][] bad = {{-1, 0}, {12, 0}, {0, -1}, {0, 12}, {-1, -1}, {MAX, 0}, {0, MIN}};
-        for (int[] b : bad) {
-            Check.refused("via " + b[0] + " " + b[1], Check.ARGUMENT, () -> desk.via(b[0], b[1]));
-        }
+        Check.refusedEach("via ", Check.ARGUMENT, bad, b -> desk.via(b[0], b[1]));
     }
 
     private static void promise9Exchange() {
@@ -192,9 +190,7 @@ public final class SettingsTest {
         Check.due("another currency", ExpenseDesk.NONE, desk.exchange(3, 3649));
         Check.due("home", 10000, desk.exchange(0, 0));
         int[][] bad = {{-1, 0}, {5, 0}, {0, -1}, {0, 3650}, {2, -1}, {MIN, 0}, {MAX, 0}, {1, MIN}, {1, MAX}};
-        for (int[] b : bad) {
-            Check.refused("exchange " + b[0] + " " + b[1], Check.ARGUMENT, () -> desk.exchange(b[0], b[1]));
-        }
+        Check.refusedEach("exchange ", Check.ARGUMENT, bad, b -> desk.exchange(b[0], b[1]));
     }
 
     private static void promise10Limit() {
@@ -216,9 +212,7 @@ public final class SettingsTest {
         desk.setLimit(-1, -1, ExpenseDesk.NONE);
         Check.due("no rule counts", ExpenseDesk.NONE, desk.limit(0, 0));
         int[][] bad = {{-1, 0}, {6, 0}, {0, -1}, {0, 4}, {MIN, 0}, {MAX, 0}, {0, MIN}, {0, MAX}};
-        for (int[] b : bad) {
-            Check.refused("limit " + b[0] + " " + b[1], Check.ARGUMENT, () -> desk.limit(b[0], b[1]));
-        }
+        Check.refusedEach("limit ", Check.ARGUMENT, bad, b -> desk.limit(b[0], b[1]));
     }
 
     private static void constants() {
