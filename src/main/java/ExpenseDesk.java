@@ -344,15 +344,15 @@ public final class ExpenseDesk {
     private int firstLike(int report, int line) {
         Report asked = allReports.get(report);
         if (asked.lines.get(line) instanceof Item item) {
-            for (int i = 0; i < report; i++) {
+            for (int i = 0; i <= report; i++) {
                 Report earlier = allReports.get(i);
-                int like = earlier.employee == asked.employee ? earlier.firstLike(item, earlier.lines.size()) : NONE;
-                if (like != NONE) {
-                    return 100 * i + like;
+                if (earlier.employee == asked.employee) {
+                    int like = earlier.firstLike(item, i == report ? line : earlier.lines.size());
+                    if (like != NONE) {
+                        return 100 * i + like;
+                    }
                 }
             }
-            int like = asked.firstLike(item, line);
-            return like == NONE ? NONE : 100 * report + like;
         }
         return NONE;
     }
