@@ -610,8 +610,9 @@ public final class ExpenseDesk {
 
         int claimBy(Settings settings) {
             int rate = settings.dayRates[region];
+            int lastDay = (to - 1) / MINUTES_OF_DAY;
             int sum = 0;
-            for (int day = from / MINUTES_OF_DAY; day * MINUTES_OF_DAY < to; day++) {
+            for (int day = from / MINUTES_OF_DAY; day <= lastDay; day++) {
                 sum += ofDay(day, rate);
             }
             // Each meal is rounded by itself, not their sum.

@@ -1,7 +1,5 @@
-import java.lang.reflect.InvocationTargetException;
 import java.lang.reflect.Method;
 import java.util.Arrays;
-import java.util.HashMap;
 import java.util.Map;
 import java.util.Random;
 
@@ -12,8 +10,8 @@ import java.util.Random;
 public final class RandomRunsTest {
     private static final int RUNS = 1500;
     private static final int CALLS = 512;
-    private static final Map<String, Method> OF_DESK = methodsOf(ExpenseDesk.class);
-    private static final Map<String, Method> OF_REFERENCE = methodsOf(ReferenceDesk.class);
+    private static final Map<String, Method> OF_DESK = Calls.methodsOf(ExpenseDesk.class);
+    private static final Map<String, Method> OF_REFERENCE = Calls.methodsOf(ReferenceDesk.class);
     /** Some stand here more than once: they are asked as much more often. */
     private static final String[] CHANGES = {"setRoad", "setRoad", "setDayRate", "setKilometreRate", "setExchange",
         "setExchange", "setLimit", "setLimit", "addEmployee", "setGrade", "openReport", "openReport", "handIn",
@@ -41,40 +39,22 @@ public final class RandomRunsTest {
         employees = 1 + random.nextInt(8);
     }
 
-    public static void main(String[] args) throws IllegalAccessException {
+    public static void main(String[] args) {
         for (int seed = 0; seed < RUNS; seed++) {
             new RandomRunsTest(seed).run(seed);
         }
         Check.end("RandomRunsTest");
     }
 
-    private static Map<String, Method> methodsOf(Class<?> type) {
-        Map<String, Method> methods = new HashMap<>();
-        for (Method method : type.getDeclaredMethods()) {
-            methods.put(method.getName(), method);
-        }
-        return methods;
-    }
-
-    private void run(int seed) throws IllegalAccessException {
+    private void run(int seed) {
         int changes = 40 + random.nextInt(CALLS - 80);
         for (int call = 0; call < CALLS; call++) {
             String name = name(call, changes);
             Object[] a = arguments(name);
-            String got = answer(desk, OF_DESK.get(name), a);
-            String want = answer(reference, OF_REFERENCE.get(name), a);
+            String got = Calls.answer(desk, OF_DESK.get(name), a);
+            String want = Calls.answer(reference, OF_REFERENCE.get(name), a);
             Check.due("seed " + seed + ", call " + call + ": " + name + Arrays.toString(a) + " answered " + got
                 + " where " + want + " is due", true, got.equals(want));
-        }
-    }
-
-    private String answer(Object of, Method method, Object[] a) throws IllegalAccessException {
-        try {
-            return String.valueOf(method.invoke(of, a));
-        } catch (InvocationTargetException e) {
-            Throwable thrown = e.getCause();
-            boolean wild = of == desk && !Check.thrownByTheClass(thrown);
-            return (wild ? "not by a throw of its own: " : "") + thrown.getClass().getName();
         }
     }
 
